@@ -593,7 +593,7 @@ public final class BentPins {
         /** The direction in which a pin sends all balls; DOWNWARD if its side decides. */
         private int leanOf(int pin) {
             int bend = bends.at(pin);
-            return bend == 0 ? tilt - LEVEL : Integer.signum(bend);
+            return bend < 0 ? LEFTWARD : bend > 0 ? RIGHTWARD : tilt - LEVEL;
         }
 
         /** The places of the next row that balls could come to from a pin. */

@@ -24,7 +24,6 @@ public final class EmptyTest {
         check.same("points stay", x.count(0), points);
         check.same("shots stay", x.count(10), 3);
         check.same("bends stay", x.count(13), 10);
-        check.same("the pad is not asked", x.count(17), 0);
         check.same("undo()", x.undo(), 3);
         check.same("left", x.count(1), 17);
         check.same("lost", x.count(3), 1);

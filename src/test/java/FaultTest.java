@@ -30,7 +30,7 @@ public final class FaultTest {
         due("<|>.o", 0, 5);
         due("<|>.O", 0, 4);
         due("x", 0, 0);
-        due("||| ".trim() + "!", 0, 3);
+        due("|||!", 0, 3);
         due(Boards.STRAIGHT, 0, BentPins.NOT_FOUND);
         due(Boards.STRAIGHT.substring(1), 0, 34);
         due(Boards.STRAIGHT + "|", 0, 35);

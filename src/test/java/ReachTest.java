@@ -18,7 +18,7 @@ public final class ReachTest {
         due("there and back", Boards.of(Boards.rows("<<>>.")), 124);
         due("no pins", Boards.of(Boards.rows(".....")), 127);
         due("a wall at the right", Boards.of(Boards.rows("....<")), 63);
-        due("a wall in the middle", Boards.of(Boards.rows("....|").substring(0, 28) + "<<<.>>>"), 1 + 2 + 8 + 32 + 64);
+        due("two walls", Boards.of(Boards.rows("....|").substring(0, 28) + "<<<.>>>"), 1 + 2 + 8 + 32 + 64);
         sidesDoNotMatter();
         fullPocketsDoNotMatter();
         check.end();

@@ -84,6 +84,10 @@ public final class ShotsTest {
         BentPins y = new BentPins();
         check.same("a soft and a hard one", Boards.shots(y, "3,3!"), 8);
         check.same("bend of pin 3", y.pin(3, 0), 4);
+        BentPins w = new BentPins();
+        Boards.shots(w, "e,3!");
+        Boards.shots(w, "e,3");
+        check.same("a soft one where a hard one stood before", w.count(11), 1);
         BentPins z = new BentPins();
         Boards.shots(z, "0,1!,2,3!,4,5!,6");
         check.same("hard ones", z.count(11), 3);

@@ -11,7 +11,7 @@ public final class WaysTest {
         }
         due("straight", x, 32, 32, 32, 32, 32, 32, 32);
         x.bend(3, true);
-        due("one pin bent", x, 31, 32 - 4 - 1, 32, 32 - 6, 32, 32 - 5, 32);
+        due("one pin bent to the right, without its 16 ways to the left", x, 28, 31, 26, 32, 28, 32, 31);
         x.bend(3, false);
         x.set(BentPins.TILT, 0);
         due("tilted to the left", x, 6, 1, 0, 0, 0, 0, 0);
@@ -26,23 +26,9 @@ public final class WaysTest {
     }
 
     private static void due(String board, BentPins x, int... ways) {
-        if ("one pin bent".equals(board)) {
-            oneBent(x);
-            return;
-        }
         for (int pocket = 0; pocket < 7; pocket++) {
             check.same("ways(" + pocket + ", 0), " + board, x.ways(pocket, 0), ways[pocket]);
             check.same("ways(" + pocket + ", 1), " + board, x.ways(pocket, 1), ways[pocket]);
         }
-    }
-
-    /** 16 of the 224 ways are gone: those that went from the pin 3 to the left. */
-    private static void oneBent(BentPins x) {
-        int all = 0;
-        for (int pocket = 0; pocket < 7; pocket++) {
-            check.same("both tell the same", x.ways(pocket, 0), x.ways(pocket, 1));
-            all += x.ways(pocket, 0);
-        }
-        check.same("all ways together", all, 208);
     }
 }
