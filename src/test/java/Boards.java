@@ -1,6 +1,7 @@
 /** Makes boards that several tests use. */
 final class Boards {
     static final String STRAIGHT = "|||||||||||||||||||||||||||||||||||";
+    static final String OPEN = ".".repeat(35);
     static final int[] WORTHS_AT_FIRST = {4, 3, 2, 1, 2, 3, 4};
 
     private Boards() {
@@ -40,6 +41,20 @@ final class Boards {
         return text.toString();
     }
 
+    /** A board without pins but this one, which is bent by hand. */
+    static BentPins onePin(int pin, int bend) {
+        BentPins x = of(OPEN);
+        x.pull(pin);
+        bendBy(x, pin, bend);
+        return x;
+    }
+
+    static void bendBy(BentPins x, int pin, int bend) {
+        for (int i = 0; i < Math.abs(bend); i++) {
+            x.bend(pin, bend > 0);
+        }
+    }
+
     static String with(String board, int pin, char sign) {
         return board.substring(0, pin) + sign + board.substring(pin + 1);
     }
@@ -58,22 +73,52 @@ final class Boards {
         }
     }
 
-    /** All that the looks tell, but for the pad, the history and why(). */
+    /** All that the looks tell, but for the pad, the history and why(): 228 calls. */
     static String state(BentPins x) {
+        return counts(x) + pins(x, 0, 1, 2, 3, 4) + pockets(x, 0, 1, 2, 3, 4) + x.mean();
+    }
+
+    /** What a refused deed leaves: all but the number of refused deeds: 227 calls. */
+    static String stateButRefusals(BentPins x) {
+        StringBuilder told = new StringBuilder();
+        for (int what = 0; what <= 16; what++) {
+            if (what != 14) {
+                told.append(x.count(what)).append(' ');
+            }
+        }
+        return told + pins(x, 0, 1, 2, 3, 4) + pockets(x, 0, 1, 2, 3, 4) + x.mean();
+    }
+
+    /** A shorter telling of it, for tests that look often: 74 calls. */
+    static String brief(BentPins x) {
+        return counts(x) + text(x) + pockets(x, 0, 1, 3) + x.mean();
+    }
+
+    private static String counts(BentPins x) {
         StringBuilder told = new StringBuilder();
         for (int what = 0; what <= 16; what++) {
             told.append(x.count(what)).append(' ');
         }
+        return told.toString();
+    }
+
+    private static String pins(BentPins x, int... whats) {
+        StringBuilder told = new StringBuilder();
         for (int pin = 0; pin < 35; pin++) {
-            for (int what = 0; what <= 4; what++) {
+            for (int what : whats) {
                 told.append(x.pin(pin, what)).append(' ');
             }
         }
+        return told.toString();
+    }
+
+    private static String pockets(BentPins x, int... whats) {
+        StringBuilder told = new StringBuilder();
         for (int pocket = 0; pocket < 7; pocket++) {
-            for (int what = 0; what <= 4; what++) {
+            for (int what : whats) {
                 told.append(x.pocket(pocket, what)).append(' ');
             }
         }
-        return told.append(x.mean()).toString();
+        return told.toString();
     }
 }

@@ -1,7 +1,10 @@
 /** Promises 1 to 27: long runs of calls, answered by the class and by the model, must be answered alike. */
 public final class ModelTest {
-    private static final int RUNS = 600;
+    private static final int RUNS = 900;
+    /** What is answered behind the 512th call is free. */
     private static final int CALLS = 512;
+    private static final int CALLS_OF_ALL_LOOKS = 310;
+    private static final int LONGEST_WRITING = 64;
     private static final int[] WRONG = {-1, Integer.MIN_VALUE, Integer.MAX_VALUE};
     private static final String[] PARTS = {"e", "0", "1!", "2", "3!", "4", "5!", "6", "3", "0!", "6!"};
 
@@ -53,9 +56,12 @@ public final class ModelTest {
         check.same("run " + run + ": " + call, got, due);
     }
 
+    /** One run in five ends with all looks, the others go on with deeds as long as calls are left. */
     private void play() {
+        boolean looksLast = run % 5 == 0;
+        int most = CALLS - LONGEST_WRITING - (looksLast ? CALLS_OF_ALL_LOOKS : 0);
         int calls = 0;
-        while (calls < CALLS) {
+        while (calls < most) {
             int kind = below(run % 3 == 0 ? 12 : 30);
             if (kind < 12) {
                 deed(kind);
@@ -67,7 +73,9 @@ public final class ModelTest {
                 calls++;
             }
         }
-        lookAtAll();
+        if (looksLast) {
+            lookAtAll();
+        }
     }
 
     private void deed(int kind) {

@@ -36,7 +36,7 @@ public final class ShotsTest {
         }
     }
 
-    /** All balls but none are gone then, and shots() has stopped at the part 2, at the position 5. */
+    /** No balls are left then, and shots() has stopped at its first part. */
     private static void stopOnce(BentPins x) {
         Boards.shootAll(x, 3, false);
         Boards.shots(x, "e,e,0");

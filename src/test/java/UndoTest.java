@@ -30,22 +30,23 @@ public final class UndoTest {
     }
 
     private static void eachChange() {
-        BentPins x = new BentPins();
-        x.save();
-        x.shoot(2, true);
-        x.pull(33);
-        x.worth(6, 0);
-        x.set(BentPins.TILT, 2);
-        x.bell(7);
-        x.shoot(1, true);
         for (int kind = 0; kind <= 12; kind++) {
-            String before = Boards.state(x);
+            BentPins x = new BentPins();
+            x.save();
+            x.shoot(2, true);
+            x.pull(33);
+            x.worth(6, 0);
+            x.set(BentPins.TILT, 2);
+            x.bell(7);
+            x.shoot(1, true);
+            String before = Boards.brief(x);
             change(x, kind);
             check.same("one state more, at most 4", x.count(18), 4);
-            check.holds("something is different, " + kind, !before.equals(Boards.state(x)));
+            check.holds("something is different, " + kind, !before.equals(Boards.brief(x)));
             check.same("undo() of " + kind, x.undo(), 3);
-            check.holds("all is as it was before " + kind, before.equals(Boards.state(x)));
+            check.sameText("all is as it was before " + kind, Boards.brief(x), before);
             change(x, kind);
+            check.same("made again, " + kind, x.count(18), 4);
         }
     }
 
