@@ -184,6 +184,9 @@ public final class LookEdgesTest {
         check.sameDouble("23 shots, 14 points", x.mean(), 14.0 / 23.0);
         x.shoot(0, false);
         check.sameDouble("a refused shot is none", x.mean(), 14.0 / 23.0);
+        BentPins y = new BentPins();
+        y.shoot(3, true);
+        check.sameDouble("one shot, 4 points", y.mean(), 4.0);
     }
 
     private static void endsWithoutBalls() {

@@ -46,8 +46,8 @@ public final class TextEdgesTest {
         BentPins y = new BentPins();
         Boards.write(y, THIRTY_PARTS);
         check.same("the last character that there is room for", y.append('!'), 60);
-        check.same("one more", y.append('!'), BentPins.LIMIT_REACHED);
-        check.same("no fault", y.fault(1), BentPins.NOT_FOUND);
+        check.same("one more", y.append('~'), BentPins.LIMIT_REACHED);
+        check.same("the characters stay: no fault", y.fault(1), BentPins.NOT_FOUND);
         int points = y.ifShot(3, false, 20, 0);
         check.same("they are shot, as long as balls are left", y.shots(), points);
         check.same("a pad that was read is empty", y.append('e'), 1);
